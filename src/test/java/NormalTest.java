@@ -5,12 +5,16 @@ public final class NormalTest {
         6979670754L, 7749036617L, 8230648364L, 8360374027L, 13113113901L, 20183980242L, 22829060014L,
         28333442333L, 40090953477L, 48284953842L, 49038536521L, 51749772715L, 56198343860L, 61266416862L,
         62076352004L, 63793437189L, 65171088600L, 65217308417L, 67324497385L, 68347887472L, 70178097399L};
+    /** Places there whose word is 2147483648 itself: as digit 0 it makes HALF true at once. */
+    private static final long[] AT_THE_MIDDLE = {
+        2592375475L, 8191531328L, 11972648663L, 12813606598L, 13235610374L, 22962888082L, 27732704406L};
     private static final Due due = new Due();
 
     public static void main(String[] args) {
         likeTheModel();
         likeDigits();
         likeDigitsByHand();
+        digitsAtTheMiddle();
         spread();
         refused();
         due.end();
@@ -35,19 +39,36 @@ public final class NormalTest {
 
     private static void likeDigits() {
         for (long like : LIKE_THE_NEXT) {
-            DrawStreams x = new DrawStreams();
-            Model m = new Model();
-            x.key(0);
-            m.key(0);
-            x.drawer(0, 0);
-            m.drawer(0, 0);
+            DrawStreams x = keyOfZero();
             due.is("word " + like + " and the next one", x.word(0, 0, like), x.word(0, 0, like + 1));
-            for (long place = like - 40; place <= like + 1; place++) {
-                x.place(0, place);
-                m.place(0, place);
-                due.is("normal(0) at " + place, x.normal(0), m.normal(0));
-                due.is("told(0, 0)", x.told(0, 0), m.told(0, 0));
-            }
+            likeTheModelFrom(x, like - 40, like + 1);
+        }
+    }
+
+    private static void digitsAtTheMiddle() {
+        for (long middle : AT_THE_MIDDLE) {
+            DrawStreams x = keyOfZero();
+            due.is("word " + middle, x.word(0, 0, middle), 2147483648L);
+            likeTheModelFrom(x, middle - 20, middle);
+        }
+    }
+
+    private static DrawStreams keyOfZero() {
+        DrawStreams x = new DrawStreams();
+        x.key(0);
+        x.drawer(0, 0);
+        return x;
+    }
+
+    private static void likeTheModelFrom(DrawStreams x, long first, long last) {
+        Model m = new Model();
+        m.key(0);
+        m.drawer(0, 0);
+        for (long place = first; place <= last; place++) {
+            x.place(0, place);
+            m.place(0, place);
+            due.is("normal(0) at " + place, x.normal(0), m.normal(0));
+            due.is("told(0, 0)", x.told(0, 0), m.told(0, 0));
         }
     }
 
@@ -56,9 +77,7 @@ public final class NormalTest {
      * their digits 1, z's ahead of x's, tell that z is not LESS: x stands, and the next word is its sign.
      */
     private static void likeDigitsByHand() {
-        DrawStreams x = new DrawStreams();
-        x.key(0);
-        x.drawer(0, 0);
+        DrawStreams x = keyOfZero();
         int met = 0;
         for (long like : LIKE_THE_NEXT) {
             long p = like - 2;
