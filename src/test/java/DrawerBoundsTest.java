@@ -19,17 +19,9 @@ public final class DrawerBoundsTest {
         due.end();
     }
 
-    private static DrawStreams withKeys(long... keys) {
-        DrawStreams x = new DrawStreams();
-        for (long key : keys) {
-            x.key(key);
-        }
-        return x;
-    }
-
     /** "DRAWERS, 12 at most, numbered from 0" */
     private static void twelveDrawersAtMost() {
-        DrawStreams x = withKeys(11);
+        DrawStreams x = Places.withKeys(11);
         for (int d = 0; d < 12; d++) {
             due.is("count(1)", x.count(1), d);
             due.is("told(" + d + ", 0) ahead of it", x.told(d, 0), -1);
@@ -48,7 +40,7 @@ public final class DrawerBoundsTest {
 
     /** "of several the first told: BAD .., FULL" and "A DRAWER at PLACE 0: its number. BAD, FULL." */
     private static void badAheadOfFull() {
-        DrawStreams x = withKeys(11);
+        DrawStreams x = Places.withKeys(11);
         due.is("drawer(-1, 0)", x.drawer(-1, 0), -1);
         due.is("drawer(1, 0)", x.drawer(1, 0), -1);
         due.is("drawer(0, -1)", x.drawer(0, -1), -1);
@@ -64,7 +56,7 @@ public final class DrawerBoundsTest {
 
     /** "A DRAWER at PLACE 0", wherever others along the same STREAM are. */
     private static void atPlaceZero() {
-        DrawStreams x = withKeys(11);
+        DrawStreams x = Places.withKeys(11);
         x.drawer(0, 0);
         x.bits(0, 64);
         x.drawer(0, 0);
@@ -76,7 +68,7 @@ public final class DrawerBoundsTest {
 
     /** "a STREAM (0 .. 2147483647)" */
     private static void streams() {
-        DrawStreams x = withKeys(11);
+        DrawStreams x = Places.withKeys(11);
         due.is("drawer(0, -1)", x.drawer(0, -1), -1);
         due.is("drawer(0, least)", x.drawer(0, Integer.MIN_VALUE), -1);
         due.is("drawer(0, 0)", x.drawer(0, 0), 0);
@@ -87,7 +79,7 @@ public final class DrawerBoundsTest {
 
     /** "from a PLACE on (0 .. 2 to the 61)" and "A DRAWER's PLACE is another one from now on: 1. BAD." */
     private static void placesAtTheEnds() {
-        DrawStreams x = withKeys(11);
+        DrawStreams x = Places.withKeys(11);
         x.drawer(0, 0);
         due.is("place(0, 2 to the 61)", x.place(0, MOST_PLACE), 1);
         due.is("told(0, 0)", x.told(0, 0), MOST_PLACE);
@@ -106,7 +98,7 @@ public final class DrawerBoundsTest {
 
     /** "to take a WORD is to have that at the PLACE, which becomes 1 more", at the ends too. */
     private static void aWordAtTheLastPlace() {
-        DrawStreams x = withKeys(11);
+        DrawStreams x = Places.withKeys(11);
         x.drawer(0, 0);
         x.place(0, MOST_PLACE - 1);
         due.is("bits(0, 32) at 2 to the 61, less 1", x.bits(0, 32), 483096119L);
@@ -122,7 +114,7 @@ public final class DrawerBoundsTest {
 
     /** "0 its PLACE, 1 REJECTED, 2 its KEY, 3 its STREAM. BAD." */
     private static void whatIsTold() {
-        DrawStreams x = withKeys(5, 6);
+        DrawStreams x = Places.withKeys(5, 6);
         x.drawer(1, 70);
         x.place(0, 800);
         due.is("told(0, -1)", x.told(0, -1), -1);
@@ -156,7 +148,7 @@ public final class DrawerBoundsTest {
 
     /** "like KEYS (by their bits), STREAMS, PLACES" */
     private static void alike() {
-        DrawStreams x = withKeys(7, 7, 1, 1008339455829626141L);
+        DrawStreams x = Places.withKeys(7, 7, 1, 1008339455829626141L);
         x.split(2, 5);
         x.drawer(0, MOST);
         x.drawer(1, MOST);
@@ -172,7 +164,7 @@ public final class DrawerBoundsTest {
 
     /** Each of the three by itself makes them differ, by one bit at either end. */
     private static void notAlike() {
-        DrawStreams x = withKeys(0, 1, Long.MIN_VALUE, 4294967296L);
+        DrawStreams x = Places.withKeys(0, 1, Long.MIN_VALUE, 4294967296L);
         x.drawer(0, 0);
         for (int key = 1; key <= 3; key++) {
             due.isTrue("other keys", !x.same(0, x.drawer(key, 0)));
@@ -189,7 +181,7 @@ public final class DrawerBoundsTest {
 
     /** "False also: no such ones." */
     private static void noSuchOnesAreNotAlike() {
-        DrawStreams x = withKeys(0);
+        DrawStreams x = Places.withKeys(0);
         due.isTrue("same(0, 0) without drawers", !x.same(0, 0));
         x.drawer(0, 0);
         for (int d : new int[] {-1, 1, 11, 12, Integer.MIN_VALUE, MOST}) {

@@ -1,4 +1,4 @@
-/** Promise 18 (normal). */
+/** Promise 18 (normal), beside the model and by its spread. */
 public final class NormalTest {
     /** Places of stream 0 of key 0 whose word is like the next one: deviates that go on to digit 1. */
     private static final long[] LIKE_THE_NEXT = {
@@ -16,7 +16,6 @@ public final class NormalTest {
         likeDigitsByHand();
         digitsAtTheMiddle();
         spread();
-        refused();
         due.end();
     }
 
@@ -39,7 +38,7 @@ public final class NormalTest {
 
     private static void likeDigits() {
         for (long like : LIKE_THE_NEXT) {
-            DrawStreams x = keyOfZero();
+            DrawStreams x = Places.keyOfZero();
             due.is("word " + like + " and the next one", x.word(0, 0, like), x.word(0, 0, like + 1));
             likeTheModelFrom(x, like - 40, like + 1);
         }
@@ -47,17 +46,10 @@ public final class NormalTest {
 
     private static void digitsAtTheMiddle() {
         for (long middle : AT_THE_MIDDLE) {
-            DrawStreams x = keyOfZero();
+            DrawStreams x = Places.keyOfZero();
             due.is("word " + middle, x.word(0, 0, middle), 2147483648L);
             likeTheModelFrom(x, middle - 20, middle);
         }
-    }
-
-    private static DrawStreams keyOfZero() {
-        DrawStreams x = new DrawStreams();
-        x.key(0);
-        x.drawer(0, 0);
-        return x;
     }
 
     private static void likeTheModelFrom(DrawStreams x, long first, long last) {
@@ -77,7 +69,7 @@ public final class NormalTest {
      * their digits 1, z's ahead of x's, tell that z is not LESS: x stands, and the next word is its sign.
      */
     private static void likeDigitsByHand() {
-        DrawStreams x = keyOfZero();
+        DrawStreams x = Places.keyOfZero();
         int met = 0;
         for (long like : LIKE_THE_NEXT) {
             long p = like - 2;
@@ -113,17 +105,5 @@ public final class NormalTest {
         due.isTrue("the mean is 0: " + sum / many, Math.abs(sum / many) < 0.02);
         due.isTrue("the variance is 1: " + squares / many, Math.abs(squares / many - 1) < 0.03);
         due.isTrue("4.55 in 100 are beyond 2: " + above, Math.abs(above / (double) many - 0.0455) < 0.004);
-    }
-
-    private static void refused() {
-        DrawStreams x = new DrawStreams();
-        due.is("normal(0) without drawers", x.normal(0), 0);
-        x.key(42);
-        x.drawer(0, 1);
-        for (int d : new int[] {-1, 1, 12, Integer.MIN_VALUE, Integer.MAX_VALUE}) {
-            due.is("normal(" + d + ")", x.normal(d), 0);
-        }
-        due.is("told(0, 0) after refusals", x.told(0, 0), 0);
-        due.is("normal(0)", x.normal(0), -3056353436L);
     }
 }

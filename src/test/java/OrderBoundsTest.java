@@ -19,14 +19,6 @@ public final class OrderBoundsTest {
         due.end();
     }
 
-    private static DrawStreams withKeys(long... keys) {
-        DrawStreams x = new DrawStreams();
-        for (long key : keys) {
-            x.key(key);
-        }
-        return x;
-    }
-
     private static void thereAndBack(DrawStreams x, int stream, int n, int i, int place) {
         String of = "(0, " + stream + ", " + n + ", ";
         due.is("secret" + of + i + ")", x.secret(0, stream, n, i), place);
@@ -46,7 +38,7 @@ public final class OrderBoundsTest {
             {67108864, 26662912, 4248106}, {67108865, 18563313, 25522945}, {268435455, 212659349, 138152198},
             {268435456, 212659349, 118702041}, {268435457, 64727053, 116984038}, {1073741823, 962177833, 493328838},
             {MOST_ORDER, 962177833, 627153342}};
-        DrawStreams x = withKeys(7);
+        DrawStreams x = Places.withKeys(7);
         for (int[] k : known) {
             thereAndBack(x, 3, k[0], 0, k[1]);
             thereAndBack(x, 3, k[0], k[0] - 1, k[2]);
@@ -56,7 +48,7 @@ public final class OrderBoundsTest {
     /** An order of 1 has parts of 1 bit all the same, and walks on till it is 0, whatever the key and stream. */
     private static void anOrderOfOne() {
         for (long key : new long[] {0, 1, -1, Long.MIN_VALUE, Long.MAX_VALUE}) {
-            DrawStreams x = withKeys(key);
+            DrawStreams x = Places.withKeys(key);
             for (int stream = 0; stream < 40; stream++) {
                 thereAndBack(x, stream, 1, 0, 0);
             }
@@ -67,7 +59,7 @@ public final class OrderBoundsTest {
     /** "it is WALKED, and again, till it is less than n": each number has one place, each place one number. */
     private static void wholeOrders() {
         for (int n = 1; n <= 80; n++) {
-            DrawStreams x = withKeys(n * 0x123456789ABCDEFL);
+            DrawStreams x = Places.withKeys(n * 0x123456789ABCDEFL);
             boolean[] met = new boolean[n];
             for (int i = 0; i < n; i++) {
                 int place = x.secret(0, n, n, i);
@@ -83,7 +75,7 @@ public final class OrderBoundsTest {
     private static void streams() {
         int[][] known = {{0, 0, 8, 5, 6, 4, 2, 9, 7, 1, 3}, {MOST - 1, 1, 4, 2, 8, 7, 6, 9, 3, 5, 0},
             {MOST, 5, 7, 3, 0, 9, 4, 6, 1, 8, 2}};
-        DrawStreams x = withKeys(7);
+        DrawStreams x = Places.withKeys(7);
         for (int[] k : known) {
             for (int i = 0; i < 10; i++) {
                 thereAndBack(x, k[0], 10, i, k[i + 1]);
@@ -104,7 +96,7 @@ public final class OrderBoundsTest {
 
     /** "A SECRET ORDER of n (1 .. 1073741824)" */
     private static void spansBeyond() {
-        DrawStreams x = withKeys(7);
+        DrawStreams x = Places.withKeys(7);
         for (int n : new int[] {LEAST, -1, 0, MOST_ORDER + 1, MOST}) {
             for (int i : new int[] {LEAST, -1, 0, 1}) {
                 refused(x, 0, 0, n, i);
@@ -116,7 +108,7 @@ public final class OrderBoundsTest {
 
     /** "BAD: also i not 0 .. n - 1." and "BAD likewise." */
     private static void numbersBeyond() {
-        DrawStreams x = withKeys(7);
+        DrawStreams x = Places.withKeys(7);
         for (int n : new int[] {1, 2, 10, 16, MOST_ORDER - 1, MOST_ORDER}) {
             for (int i : new int[] {LEAST, -1, n, n + 1, MOST}) {
                 refused(x, 0, 0, n, i);
@@ -126,9 +118,9 @@ public final class OrderBoundsTest {
 
     /** "BAD (no such KEY ..": and the bits of a KEY tell from end to end. */
     private static void keysBeyond() {
-        DrawStreams none = withKeys();
+        DrawStreams none = Places.withKeys();
         refused(none, 0, 0, 10, 0);
-        DrawStreams x = withKeys(-1, Long.MIN_VALUE);
+        DrawStreams x = Places.withKeys(-1, Long.MIN_VALUE);
         for (int key : new int[] {LEAST, -1, 2, 16, MOST}) {
             refused(x, key, 0, 10, 0);
         }

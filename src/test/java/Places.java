@@ -21,6 +21,14 @@ final class Places {
     private Places() {
     }
 
+    static DrawStreams withKeys(long... keys) {
+        DrawStreams x = new DrawStreams();
+        for (long key : keys) {
+            x.key(key);
+        }
+        return x;
+    }
+
     /** Key 0 of it is 0; drawer 0 goes along stream 0. */
     static DrawStreams keyOfZero() {
         DrawStreams x = new DrawStreams();

