@@ -144,6 +144,7 @@ public final class DrawerBoundsTest {
         due.is("told(0, 1) after place()", x.told(0, 1), 1);
         due.is("place(0, -1)", x.place(0, -1), -1);
         due.is("told(0, 1) after a refusal", x.told(0, 1), 1);
+        due.isTrue("same(0, 1): it does not tell how they go on", x.same(0, 1));
     }
 
     /** "like KEYS (by their bits), STREAMS, PLACES" */

@@ -18,6 +18,7 @@ public final class KeyBoundsTest {
         partsOfAllSizes();
         bitsMayLookBad();
         whatIsCounted();
+        theLastCallOfAll();
         due.end();
     }
 
@@ -209,5 +210,17 @@ public final class KeyBoundsTest {
         due.is("count(3)", x.count(3), -1);
         due.is("count(least)", x.count(Integer.MIN_VALUE), -1);
         due.is("count(most)", x.count(MOST), -1);
+    }
+
+    /** "An object is used for at most 512 calls after it has been made": the 512th is answered like any other. */
+    private static void theLastCallOfAll() {
+        DrawStreams x = new DrawStreams();
+        x.key(11);
+        x.drawer(0, 0);
+        for (int call = 3; call <= 510; call++) {
+            x.hits(0, 1, 2, 1000);
+        }
+        due.is("call 511: told(0, 0)", x.told(0, 0), 508000);
+        due.is("call 512: word(0, 0, 0)", x.word(0, 0, 0), 3848496742L);
     }
 }

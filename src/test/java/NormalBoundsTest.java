@@ -135,7 +135,8 @@ public final class NormalBoundsTest {
     private static void rejectedOnTheWay() {
         areNormals(new long[][] {
             {84, -2670996750L, 43, 2}, {195, -161940646L, 59, 4}, {464, -5117745624L, 22, 1},
-            {542, 8256708146L, 32, 1}, {89, -10553403691L, 25, 1}, {553, 11043713719L, 14, 1}, {31385, 13688299946L, 79, 1}});
+            {542, 8256708146L, 32, 1}, {89, -10553403691L, 25, 1}, {553, 11043713719L, 14, 1},
+            {31385, 13688299946L, 79, 1}});
     }
 
     /** "0 (which it may be)": k is 0 and digit 0 of x 0, with either sign; words are taken all the same. */

@@ -34,8 +34,8 @@ public final class NumberBoundsTest {
 
     /** "n above 32: a WORD, behind it another one ..; 1 to 32: .. a WORD; 0: nothing is taken, and they are 0." */
     private static void bitsAndTheirWords() {
-        long[][] known = {{0, 0, 0, 0}, {1, 1, 1, 1}, {2, 3, 3, 1}, {31, 2147483647L, 2147483647L, 1}, {32, ALL_32, ALL_32, 1},
-            {33, 8589934591L, 8589934590L, 2}, {53, 9007199254740991L, 9007199252643840L, 2},
+        long[][] known = {{0, 0, 0, 0}, {1, 1, 1, 1}, {2, 3, 3, 1}, {31, 2147483647L, 2147483647L, 1},
+            {32, ALL_32, ALL_32, 1}, {33, 8589934591L, 8589934590L, 2}, {53, 9007199254740991L, 9007199252643840L, 2},
             {63, Long.MAX_VALUE, 9223372034707292160L, 2}, {64, -1, -4294967296L, 2}};
         for (long[] k : known) {
             DrawStreams x = Places.atCorner(0);

@@ -43,7 +43,9 @@ public final class RefusalsTest {
             of.coins();
             of.rows();
             of.orders();
+            of.asking();
         }
+        ofUsed.nothingToTake();
         ofFull.noRoom();
         new RefusalsTest(new Twins(due, "no weights", RefusalsTest::withoutWeights)).nothingToChoose();
         due.end();
@@ -214,8 +216,9 @@ public final class RefusalsTest {
         for (int n : new int[] {LEAST, -1, 201, MOST}) {
             bad("permutation(0, " + n + ")", x -> x.permutation(0, n));
         }
-        int[][] wrong = {{-1, 0}, {-1, -1}, {LEAST, 0}, {1000001, 0}, {1000001, 200}, {MOST, 1}, {5, -1}, {5, 6}, {5, LEAST},
-            {5, MOST}, {0, 1}, {0, -1}, {199, 200}, {200, 201}, {201, 201}, {1000000, 201}, {1000000, -1}, {MOST, MOST}};
+        int[][] wrong = {{-1, 0}, {-1, -1}, {LEAST, 0}, {1000001, 0}, {1000001, 200}, {MOST, 1}, {5, -1}, {5, 6},
+            {5, LEAST}, {5, MOST}, {0, 1}, {0, -1}, {199, 200}, {200, 201}, {201, 201}, {1000000, 201}, {1000000, -1},
+            {MOST, MOST}};
         for (int[] w : wrong) {
             bad("subset(0, " + w[0] + ", " + w[1] + ")", x -> x.subset(0, w[0], w[1]));
         }
@@ -223,14 +226,41 @@ public final class RefusalsTest {
 
     /** Promises 24, 25: a STREAM, n 1 .. 1073741824, i and the PLACE 0 .. n - 1. */
     private void orders() {
-        int[][] wrong = {{-1, 10, 0}, {LEAST, 10, 0}, {0, 0, 0}, {0, 0, -1}, {0, -1, 0}, {0, -1, -1}, {0, -1, -2}, {0, LEAST, 0},
-            {0, 1073741825, 0}, {0, MOST, 0}, {0, 10, -1}, {0, 10, 10}, {0, 10, LEAST}, {0, 10, MOST}, {0, 1, 1}, {0, 1, -1},
-            {0, 1073741824, 1073741824}, {0, 1073741824, -1}};
+        int[][] wrong = {{-1, 10, 0}, {LEAST, 10, 0}, {0, 0, 0}, {0, 0, -1}, {0, -1, 0}, {0, -1, -1}, {0, -1, -2},
+            {0, LEAST, 0}, {0, 1073741825, 0}, {0, MOST, 0}, {0, 10, -1}, {0, 10, 10}, {0, 10, LEAST}, {0, 10, MOST},
+            {0, 1, 1}, {0, 1, -1}, {0, 1073741824, 1073741824}, {0, 1073741824, -1}};
         for (int[] w : wrong) {
             String of = "(0, " + w[0] + ", " + w[1] + ", " + w[2] + ")";
             bad("secret" + of, x -> x.secret(0, w[0], w[1], w[2]));
             bad("back" + of, x -> x.back(0, w[0], w[1], w[2]));
         }
+    }
+
+    /** No refusals, but they change nothing either: "the order of asking changes nothing". */
+    private void asking() {
+        DrawStreams other = twins.another();
+        twins.changesNothing("bitsOf(0)", x -> x.bitsOf(0), other.bitsOf(0));
+        twins.changesNothing("word(0, 4, 5)", x -> x.word(0, 4, 5), other.word(0, 4, 5));
+        twins.changesNothing("told(0, 1)", x -> x.told(0, 1), other.told(0, 1));
+        twins.changesNothing("same(0, 0)", x -> x.same(0, 0), true);
+        twins.changesNothing("same(0, 1)", x -> x.same(0, 1), false);
+        twins.changesNothing("at(5)", x -> x.at(5), other.at(5));
+        twins.changesNothing("secret(0, 0, 10, 3)", x -> x.secret(0, 0, 10, 3), other.secret(0, 0, 10, 3));
+        twins.changesNothing("back(0, 0, 10, 3)", x -> x.back(0, 0, 10, 3), other.back(0, 0, 10, 3));
+        twins.changesNothing("count(2)", x -> x.count(2), other.count(2));
+    }
+
+    /** Nor do these: no bits, a span of 1, coins that are sure, none of them, and no coins at all. */
+    private void nothingToTake() {
+        twins.changesNothing("bits(0, 0)", x -> x.bits(0, 0), 0);
+        twins.changesNothing("below(0, 1)", x -> x.below(0, 1), 0);
+        twins.changesNothing("coin(0, 0, 9)", x -> x.coin(0, 0, 9), 0);
+        twins.changesNothing("coin(0, 9, 9)", x -> x.coin(0, 9, 9), 1);
+        twins.changesNothing("misses(0, 0, 9, 1000)", x -> x.misses(0, 0, 9, 1000), 1000);
+        twins.changesNothing("misses(0, 1, 2, 0)", x -> x.misses(0, 1, 2, 0), 0);
+        twins.changesNothing("hits(0, 9, 9, 1000)", x -> x.hits(0, 9, 9, 1000), 1000);
+        twins.changesNothing("hits(0, 1, 2, 0)", x -> x.hits(0, 1, 2, 0), 0);
+        twins.changesNothing("mask(0, 9, 9, 64)", x -> x.mask(0, 9, 9, 64), -1);
     }
 
     /** Promises 2, 3, 6: FULL, with nothing BAD ahead of it. */
