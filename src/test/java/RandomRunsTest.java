@@ -118,9 +118,21 @@ public final class RandomRunsTest {
             case 7 -> both(call + " same", s -> x.same(d, e), s -> m.same(d, e), 0);
             case 8 -> both(call + " at", s -> x.at((int) (long) s), s -> m.at((int) (long) s), upTo(m.count(2)));
             case 9 -> both(call + " weight", s -> x.weight(e, s), s -> m.weight(e, s), upTo(1000000000000L));
-            case 10 -> both(call + " secret", s -> x.secret(key, stream, n, i), s -> m.secret(key, stream, n, i), 0);
+            case 10 -> greatOrder(call, key, stream);
             case 11 -> back(call, key, stream, i);
             default -> both(call + " count", s -> x.count((int) (long) s), s -> m.count((int) (long) s), upTo(2));
+        }
+    }
+
+    /** One call of the two, so that a run stays within its 512: there, or back from where the model is. */
+    private void greatOrder(int call, int key, int stream) {
+        int n = random.nextBoolean() ? intUpTo(40) : intUpTo(1 << 30);
+        int i = intUpTo(Math.max(0, n - 1));
+        if (random.nextBoolean()) {
+            both(call + " secret", s -> x.secret(key, stream, n, i), s -> m.secret(key, stream, n, i), 0);
+        } else {
+            int place = m.secret(key, stream, n, i);
+            both(call + " back", s -> x.back(key, stream, n, place), s -> place < 0 ? -1 : i, 0);
         }
     }
 
