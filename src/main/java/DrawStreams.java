@@ -227,10 +227,7 @@ public final class DrawStreams {
             row[i] = i;
         }
         for (int i = n - 1; i >= 1; i--) {
-            int t = (int) from.takeBelow(i + 1);
-            int kept = row[i];
-            row[i] = row[t];
-            row[t] = kept;
+            changePlaces(i, (int) from.takeBelow(i + 1));
         }
         rowLength = n;
         return n;
@@ -330,6 +327,16 @@ public final class DrawStreams {
     /** Null where there is no such drawer, so that each caller has to refuse it in its own way. */
     private Drawer find(int d) {
         return d >= 0 && d < drawerCount ? drawers[d] : null;
+    }
+
+    /** No number drawn is beyond the row; an index is looked at all the same before it is used. */
+    private void changePlaces(int i, int t) {
+        if (!within(i, 0, MOST_ROW - 1) || !within(t, 0, MOST_ROW - 1)) {
+            return;
+        }
+        int kept = row[i];
+        row[i] = row[t];
+        row[t] = kept;
     }
 
     private boolean rowHolds(int number) {
